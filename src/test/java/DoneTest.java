@@ -13,6 +13,7 @@ public final class DoneTest {
         fills();
         undoes();
         undoesEach();
+        undoesStrikes();
         due.ends();
     }
 
@@ -225,5 +226,21 @@ public final class DoneTest {
         due.is("THE TEXT is not undone", x.count(6), 3);
         due.is("IMAGES are not undone", x.back(0), 2);
         due.is("EAR is as the image has it", x.pair(0, 1, 0), 5);
+    }
+
+    /** A strike of 4 in beat 0 makes all LEARNT of its LINE one more; undone, it must not. */
+    private static void undoesStrikes() {
+        for (int j = 0; j < 4; j++) {
+            QuietPairs x = Due.made("", 15);
+            x.strikes(j, 0, 4);
+            x.strikes(j, 3, 7);
+            due.is("undo of the second strike", x.undo(), 5);
+            due.is("trains with the first", x.trains(), 4);
+            due.is("LEARNT of " + j + " for 0", x.pair(j, 0, 1), j == 0 ? 2 : 1);
+            due.is("LEARNT of " + j + " for 3", x.pair(j, 3, 1), j == 3 ? 2 : 1);
+            due.is("undo of trains", x.undo(), 5);
+            due.is("undo of the first strike", x.undo(), 4);
+            due.is("trains with none", x.trains(), 0);
+        }
     }
 }

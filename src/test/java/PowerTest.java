@@ -39,6 +39,8 @@ public final class PowerTest {
     private static void settles() {
         is("b0 0;", 1, 0, QuietPairs.NONE);
         is("", 1, 1, QuietPairs.NONE);
+        is("b0 1;", 1, 1, QuietPairs.NONE);
+        is("b3 1;n3 0 1;n3 1 1;", 8, 1, QuietPairs.NONE);
         is("", 15, 1, QuietPairs.NONE);
         is("g0 1 3;", 3, 2, QuietPairs.NONE);
         is("g0 1 2;g1 0 2;b0 11;b1 11;", 3, 8, QuietPairs.NONE);

@@ -9,6 +9,7 @@ public final class ToldTest {
         items();
         blanksAndOrder();
         tellsAllAnew();
+        tellsAgainAndAgain();
         faults();
         faultChangesNothing();
         longestText();
@@ -116,6 +117,22 @@ public final class ToldTest {
         due.is("trains: what was STRUCK is gone", x.trains(), 0);
     }
 
+    /** What an earlier text told, or the one ahead of that, is gone; by the empty text, too. */
+    private static void tellsAgainAndAgain() {
+        String[] texts = {"e3 0 7;n0 0 5;n3 2 6;g0 1 8;g3 2 9;b0 1;b3 9;m2;", "e2 1 4;n1 1 3;", "n1 1 0;g1 0 0;b2 5;", "", "m3;", ""};
+        QuietPairs x = new QuietPairs();
+        for (String text : texts) {
+            for (int line = 0; line < 4; line++) {
+                x.joins(line);
+            }
+            x.fills(1);
+            due.is("POWER of 0 at TONE 0 or 1", x.tone(0, 0, 1) + x.tone(0, 1, 1) > 0 ? 1 : 0, 1);
+            Due.types(x, text);
+            due.is("tells of '" + text + "'", x.tells(), text.length() - text.replace(";", "").length());
+            due.unchanged("tells of '" + text + "' behind others", Due.view(Due.made(text, 0)), x);
+        }
+    }
+
     private static void fault(String text, int place) {
         QuietPairs x = new QuietPairs();
         Due.types(x, text);
@@ -126,13 +143,13 @@ public final class ToldTest {
     private static void faults() {
         String[] texts = {
             "x", ";", "7;", "E0 1 5;", "e;", "e", "e ", "e0", "e0 ", "e0 1", "e0 1 5", "e0 1 5  ", "e4 0 1;", "e0 4 1;", "e0 1 31;",
-            "e0 0 0;", "e0 0 31;", "e0 1 05;", "e0 1 00;", "e00 1 5;", "e0 1 100;", "e0 1 5 5;", "e0 1 5e1 0 5;", "e0 1;",
+            "e0 0 0;", "e0 0 31;", "e0 1 05;", "e0 1 09;", "e0 1 00;", "e00 1 5;", "e0 1 100;", "e0 1 5 5;", "e0 1 5e1 0 5;", "e0 1;",
             "n4 0 1;", "n0 3 1;", "n0 0 21;", "n0 0;", "g4 0 1;", "g0 4 1;", "g1 1 2;", "g0 1 10;", "g0 0 99;", "b4 1;", "b0 13;",
             "b0;", "m0;", "m13;", "m100;", "m;", "m1 1;", "m1;;", "m1;x", "m1; 5", "m1;m", "e01 5;", "m1,", "m1;\t", "ee0 1 5;",
             "e0 x 999;", "  m99;", "m123456789012345678901234567890;", "m4294967297;", "b0 1 ; m 2", "n0 0 x", "g2 2"};
         int[] places = {
             0, 0, 0, 0, 1, 1, 2, 2, 3, 4, 6, 8, 1, 3, 5,
-            5, 5, 5, 5, 1, 5, 7, 6, 4,
+            5, 5, 5, 5, 5, 1, 5, 7, 6, 4,
             1, 3, 5, 4, 1, 3, 3, 5, 3, 1, 3,
             2, 1, 1, 1, 1, 3, 3, 3, 4, 4, 1, 2, 3, 1,
             3, 3, 1, 1, 10, 5, 3};
