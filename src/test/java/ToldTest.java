@@ -13,6 +13,7 @@ public final class ToldTest {
         faults();
         faultChangesNothing();
         longestText();
+        clearedLetters();
         due.ends();
     }
 
@@ -194,5 +195,28 @@ public final class ToldTest {
         }
         due.is("tells: 53 items", x.tells(), 53);
         due.is("MASK", x.count(2), 2);
+    }
+
+    /** Letters of a text that was cleared or told are not read behind the end of the next one. */
+    private static void clearedLetters() {
+        QuietPairs x = new QuietPairs();
+        Due.types(x, "m3;");
+        x.clear();
+        Due.types(x, "m3");
+        due.is("tells of 'm3' where ; was", x.tells(), -12);
+        x.clear();
+        Due.types(x, "m10;m11;");
+        due.is("tells", x.tells(), 2);
+        Due.types(x, "m1");
+        due.is("tells of 'm1' where 0; was", x.tells(), -12);
+        Due.types(x, ";");
+        due.is("tells of 'm1;'", x.tells(), 1);
+        due.is("MASK", x.count(2), 1);
+        for (int n = 0; n < 52; n++) {
+            Due.types(x, "m2;");
+        }
+        Due.types(x, "  m2");
+        due.is("tells of 160 letters, without the last ;", x.tells(), -170);
+        due.is("MASK stays", x.count(2), 1);
     }
 }
