@@ -179,9 +179,7 @@ public final class DoneTest {
     private static void undoes() {
         QuietPairs x = new QuietPairs();
         due.is("undo, none", x.undo(), QuietPairs.STATE);
-        String[] views = new String[9];
         for (int n = 0; n < 9; n++) {
-            views[n] = Due.view(x);
             x.drifts(0, 1, n + 1);
             due.is("count(7)", x.count(7), Math.min(n + 1, 6));
         }
@@ -201,25 +199,31 @@ public final class DoneTest {
         due.is("count(0)", x.count(0), 3);
     }
 
-    private static void undoesEach() {
+    private static QuietPairs doneAndKept() {
         QuietPairs x = Due.made("e0 1 5;e0 0 2;g0 1 1;", 3);
         x.strikes(0, 0, 4);
         x.tries(0, 1, 0);
         x.keep(0);
         Due.types(x, "m1;");
-        String before = Due.view(x);
-        int known = x.count(7);
+        return x;
+    }
+
+    private static void undoesEach() {
         for (int call = 0; call < 6; call++) {
+            QuietPairs x = doneAndKept();
+            String before = Due.view(x);
+            int known = x.count(7);
             int answer = call == 0 ? x.joins(2) : call == 1 ? x.leaves(0) : call == 2 ? x.drifts(0, 1, 6)
                 : call == 3 ? x.strikes(0, 1, 3) : call == 4 ? x.trains() : x.fills(2);
             due.is("call " + call + " is not refused", answer >= 0 ? 1 : 0, 1);
             due.is("undo of call " + call, x.undo(), known);
             due.unchanged("undo of call " + call, before, x);
+            due.is("trains: STRUCK came back by undo (4 in beat 0 alone)", x.trains(), 2);
+            due.is("LEARNT of 0 for itself", x.pair(0, 0, 1), 3);
+            due.is("LEARNT of 0 for 1", x.pair(0, 1, 1), 6);
         }
-        due.is("trains: STRUCK came back by undo (4 in beat 0 alone)", x.trains(), 2);
-        due.is("LEARNT of 0 for itself", x.pair(0, 0, 1), 3);
-        due.is("LEARNT of 0 for 1", x.pair(0, 1, 1), 6);
-        due.is("TRIED is not undone", x.count(5), 1);
+        QuietPairs x = doneAndKept();
+        x.trains();
         x.tries(1, 1, 1);
         x.undo();
         due.is("TRIED is not undone", x.count(5), 2);

@@ -121,17 +121,23 @@ public final class ToldTest {
     /** What an earlier text told, or the one ahead of that, is gone; by the empty text, too. */
     private static void tellsAgainAndAgain() {
         String[] texts = {"e3 0 7;n0 0 5;n3 2 6;g0 1 8;g3 2 9;b0 1;b3 9;m2;", "e2 1 4;n1 1 3;", "n1 1 0;g1 0 0;b2 5;", "", "m3;", ""};
-        QuietPairs x = new QuietPairs();
-        for (String text : texts) {
-            for (int line = 0; line < 4; line++) {
-                x.joins(line);
+        for (int last = 0; last < texts.length; last++) {
+            QuietPairs x = new QuietPairs();
+            for (int k = 0; k <= last; k++) {
+                tellsBehindRounds(x, texts[k]);
             }
-            x.fills(1);
-            due.is("POWER of 0 at TONE 0 or 1", x.tone(0, 0, 1) + x.tone(0, 1, 1) > 0 ? 1 : 0, 1);
-            Due.types(x, text);
-            due.is("tells of '" + text + "'", x.tells(), text.length() - text.replace(";", "").length());
-            due.unchanged("tells of '" + text + "' behind others", Due.view(Due.made(text, 0)), x);
+            due.unchanged("tells of '" + texts[last] + "' behind others", Due.view(Due.made(texts[last], 0)), x);
         }
+    }
+
+    private static void tellsBehindRounds(QuietPairs x, String text) {
+        for (int line = 0; line < 4; line++) {
+            x.joins(line);
+        }
+        x.fills(1);
+        due.is("POWER of 0 at TONE 0 or 1", x.tone(0, 0, 1) + x.tone(0, 1, 1) > 0 ? 1 : 0, 1);
+        Due.types(x, text);
+        due.is("tells of '" + text + "'", x.tells(), text.length() - text.replace(";", "").length());
     }
 
     private static void fault(String text, int place) {
