@@ -72,6 +72,15 @@ final class Due {
         return x;
     }
 
+    /** A text by which a ROUND lays one unit of POWER for j, at the TONE t. */
+    static String oneUnitAt(int j, int t) {
+        StringBuilder text = new StringBuilder("b" + j + " 1;");
+        for (int other = 0; other < 3; other++) {
+            text.append("n").append(j).append(' ').append(other).append(other == t ? " 1;" : " 2;");
+        }
+        return text.toString();
+    }
+
     /** The EAR of j for i that the text EARS tells. */
     static int earOf(int j, int i) {
         return EAR[4 * j + i];

@@ -22,6 +22,7 @@ public final class EdgesEarsImagesTest {
         keepsAgain();
         imagesStay();
         keepsAllOfTwo();
+        keepsPower();
         keepsNothingElse();
         countRefuses();
         counts();
@@ -261,6 +262,17 @@ public final class EdgesEarsImagesTest {
         x.tries(1, 4, 1);
         due.is("ask, one EAR of 2, 3 each", x.ask(), 32 + 2);
         due.is("ask changes nothing", x.ask(), 32 + 2);
+        QuietPairs y = Due.made("", 15);
+        y.tries(0, 14, 1);
+        y.tries(1, 14, 1);
+        y.tries(2, 15, 1);
+        y.tries(3, 3, 1);
+        due.is("ask, one EAR of 0 and 1 each, two of 3", y.ask(), 48 + 12);
+        QuietPairs z = Due.made("", 15);
+        z.tries(0, 12, 1);
+        z.tries(1, 14, 1);
+        z.tries(2, 14, 1);
+        due.is("ask, two EARS of 0, one of 1 and 2 each, four of 3", z.ask(), 48 + 15);
     }
 
     private static void asksWhenFull() {
@@ -401,6 +413,24 @@ public final class EdgesEarsImagesTest {
             due.is("STRUCK of 3 in beat 0", x.strikes(3, 0, 1), 1);
             due.is("back(" + image + ") again", x.back(image), 2);
             due.is("STRUCK of 0 in beat 0, as kept", x.strikes(0, 0, 2), 6);
+        }
+    }
+
+    private static void keepsPower() {
+        due.says("Part 2: POWER is UNDONE, part 3: and kept");
+        for (int at = 0; at < 12; at++) {
+            int j = at / 3;
+            QuietPairs x = Due.made(Due.oneUnitAt(j, at % 3), 1 << j);
+            x.fills(1);
+            x.keep(at % 2);
+            x.leaves(j);
+            due.is("POWER at " + at + ", it has left", x.tone(j, at % 3, 1), 0);
+            x.undo();
+            due.is("POWER at " + at + ", leaves() UNDONE", x.tone(j, at % 3, 1), 1);
+            x.undo();
+            due.is("POWER at " + at + ", fills() UNDONE", x.tone(j, at % 3, 1), 0);
+            x.back(at % 2);
+            due.is("POWER at " + at + ", as kept", x.tone(j, at % 3, 1), 1);
         }
     }
 

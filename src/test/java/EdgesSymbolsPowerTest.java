@@ -10,12 +10,14 @@ public final class EdgesSymbolsPowerTest {
         sendRefuses();
         sendsWhatIsNotOn();
         justOneWay();
+        oneWayStill();
         learntForItselfNothing();
         makers();
         cleans();
         hurts();
         hurtsByWhatCannotBeMade();
         settledRefuses();
+        steady();
         settles();
         goesRound();
         goesRoundBehindSome();
@@ -206,11 +208,47 @@ public final class EdgesSymbolsPowerTest {
         }
     }
 
+    /** With these EARS of a, b and c, what is left of b's row for b is 0 when that of a is taken off: there is one way still. */
+    private static void oneWayStill() {
+        due.says("Part 2: MADE: LEARNT of j for i times x of i, all i that are ON together, is LEARNT of j for itself times s of j");
+        for (int n = 0; n < 64; n++) {
+            int a = n / 16;
+            int b = n / 4 % 4;
+            int c = n % 4;
+            if (a != b && b != c && a != c) {
+                String text = "e" + a + " " + b + " 1;e" + b + " " + a + " 1;e" + b + " " + c + " 1;e" + c + " " + b + " 1;";
+                madeAsLearnt(text, Due.made(text, 15));
+                madeAsLearnt(text, Due.made(text, 1 << a | 1 << b | 1 << c));
+            }
+        }
+    }
+
+    private static void madeAsLearnt(String of, QuietPairs x) {
+        int on = x.count(0);
+        x.trains();
+        due.is(of + ": clean", x.clean(), on);
+        int[] s = {7 * (on & 1), 15 * (on >> 1 & 1), 30 * (on >> 2 & 1), 22 * (on >> 3 & 1)};
+        int[] made = new int[4];
+        for (int i = 0; i < 4; i++) {
+            made[i] = (on >> i & 1) == 1 ? x.send(s[0], s[1], s[2], s[3], i, 0) : 0;
+        }
+        for (int j = 0; j < 4; j++) {
+            if ((on >> j & 1) == 1) {
+                int sum = 0;
+                for (int i = 0; i < 4; i++) {
+                    sum += x.pair(j, i, 1) * made[i];
+                }
+                due.is(of + ": row " + j, sum % 31, x.pair(j, j, 1) * s[j] % 31);
+                due.is(of + ": GOT by " + j, x.send(s[0], s[1], s[2], s[3], j, 1), s[j]);
+            }
+        }
+    }
+
     private static void learntForItselfNothing() {
         due.says("Part 2: (LEARNT for itself 0 of one that is ON: nothing can be MADE.)");
         for (int line = 0; line < 4; line++) {
             int other = (line + 1) % 4;
-            QuietPairs x = Due.made("e" + line + " " + other + " 1;e" + other + " " + line + " 1;", 15);
+            QuietPairs x = Due.made("e" + line + " " + other + " 2;e" + other + " " + line + " 3;", 15);
             x.strikes(line, 0, 27);
             x.trains();
             due.is("LEARNT of " + line + " for itself", x.pair(line, line, 1), 0);
@@ -334,6 +372,24 @@ public final class EdgesSymbolsPowerTest {
         due.is("count(4) of " + of, x.count(4), settled == 0 ? 1 : 0);
     }
 
+    private static void steady() {
+        due.says("Part 3: STEADY: a ROUND would change nothing");
+        for (int at = 0; at < 12; at++) {
+            QuietPairs x = Due.made(Due.oneUnitAt(at / 3, at % 3), 1 << at / 3);
+            is("one unit, to be laid at " + at, x, 1, QuietPairs.NONE);
+            x.fills(1);
+            is("one unit, laid at " + at, x, 0, QuietPairs.NONE);
+        }
+        QuietPairs y = Due.made("n0 0 7;n0 2 7;b0 9;g0 2 1;b1 8;n1 1 20;n1 2 20;b2 1;", 7);
+        is("one unit that goes from TONE 0 to TONE 2, beside eights", y, 2, QuietPairs.NONE);
+        y.fills(1);
+        is("the same, to be laid anew", y, 1, QuietPairs.NONE);
+        due.is("POWER of 0 at 0", y.tone(0, 0, 1), 1);
+        y.fills(1);
+        is("the same, laid anew", y, 0, QuietPairs.NONE);
+        due.is("POWER of 0 at 2", y.tone(0, 2, 1), 1);
+    }
+
     private static void settles() {
         due.says("Part 3: SETTLED: after how many ROUNDS (0 to 60) it is STEADY; NONE: it is not by then");
         is("no LINE", new QuietPairs(), 0, QuietPairs.NONE);
@@ -376,5 +432,7 @@ public final class EdgesSymbolsPowerTest {
         }
         QuietPairs z = Due.made("g0 1 1;g0 2 1;g1 3 1;g2 1 1;g2 3 1;g3 0 1;g3 2 1;b0 8;b1 1;b2 10;b3 10;", 15);
         is("by 60, behind 58", z, QuietPairs.NONE, 60);
+        QuietPairs w = Due.made("g0 1 1;g0 2 1;g1 2 1;g2 0 1;g2 3 1;g3 0 1;b0 12;b1 11;b2 11;b3 1;n0 2 1;n3 1 3;", 15);
+        is("by 59, behind 60", w, QuietPairs.NONE, 59);
     }
 }

@@ -32,6 +32,7 @@ public final class EdgesToldTest {
         full();
         clears();
         tellsAnew();
+        tellsAnewAgain();
         manyItems();
         theLastCall();
         due.ends();
@@ -57,6 +58,7 @@ public final class EdgesToldTest {
                 int q = x.send(1, 0, 0, 0, 0, 1);
                 due.is(a + " by " + b + " is a SYMBOL", q >= 0 && q <= 30 ? 1 : 0, 1);
                 due.is(a + " by " + b + " times " + b, q * b % 31, a);
+                due.is("x of one alone is its s, LEARNT " + b, x.send(a, 0, 0, 0, 0, 0), a);
             }
         }
     }
@@ -438,6 +440,29 @@ public final class EdgesToldTest {
                 due.is("joins", x.joins(j), j + 1);
             }
             due.is("trains: nothing is STRUCK", x.trains(), text.startsWith("e") ? 1 : 0);
+        }
+    }
+
+    /** What the text ahead of the last one told is gone, too; so is POWER, wherever it lay. */
+    private static void tellsAnewAgain() {
+        due.says("Part 3: A text told: what it does not tell is as at first");
+        String[] texts = {
+            Due.EARS, "n0 0 1;n0 1 2;n0 2 3;n1 0 4;n1 1 5;n1 2 6;n2 0 7;n2 1 8;n2 2 9;n3 0 10;n3 1 11;n3 2 12;",
+            "g0 1 1;g0 2 2;g0 3 3;g1 0 4;g1 2 5;g1 3 6;g2 0 7;g2 1 8;g2 3 9;g3 0 1;g3 1 2;g3 2 3;", "b0 0;b1 12;b2 5;b3 3;m1;"};
+        for (String text : texts) {
+            QuietPairs x = Due.made(text, 15);
+            x.fills(1);
+            due.is("tells of the empty text", x.tells(), 0);
+            due.is("as at first", Due.view(x), Due.view(new QuietPairs()));
+            due.is("tells of the empty text", x.tells(), 0);
+            due.is("as at first", Due.view(x), Due.view(new QuietPairs()));
+        }
+        for (int at = 0; at < 12; at++) {
+            QuietPairs x = Due.made(Due.oneUnitAt(at / 3, at % 3), 1 << at / 3);
+            x.fills(1);
+            due.is("POWER at " + at, x.tone(at / 3, at % 3, 1), 1);
+            x.tells();
+            due.is("POWER at " + at + " then", x.tone(at / 3, at % 3, 1), 0);
         }
     }
 
